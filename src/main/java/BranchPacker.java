@@ -17,13 +17,11 @@ public final class BranchPacker {
     private final Net net;
     private final Grove grove;
     private final Packing packing;
-    private boolean packingIsStale;
 
     public BranchPacker() {
         net = new Net();
         grove = new Grove();
         packing = new Packing();
-        packingIsStale = true;
     }
 
     public boolean begin(int n) {
@@ -32,7 +30,7 @@ public final class BranchPacker {
         }
         net.restart(n);
         grove.size = 0;
-        packingIsStale = true;
+        packing.isStale = true;
         return true;
     }
 
@@ -41,7 +39,7 @@ public final class BranchPacker {
             return NONE;
         }
         net.addArc(a, b);
-        packingIsStale = true;
+        packing.isStale = true;
         return net.arcCount - 1;
     }
 
@@ -50,7 +48,7 @@ public final class BranchPacker {
             return false;
         }
         net.removeArc(e);
-        packingIsStale = true;
+        packing.isStale = true;
         return true;
     }
 
@@ -59,7 +57,7 @@ public final class BranchPacker {
             return NONE;
         }
         grove.add(roots);
-        packingIsStale = true;
+        packing.isStale = true;
         return grove.size - 1;
     }
 
@@ -68,7 +66,7 @@ public final class BranchPacker {
             return NONE;
         }
         grove.size--;
-        packingIsStale = true;
+        packing.isStale = true;
         return grove.size;
     }
 
@@ -112,7 +110,7 @@ public final class BranchPacker {
         if (!net.hasArc(e)) {
             return NONE;
         }
-        refreshPacking();
+        packing.refresh(net, grove);
         return packing.owners[e];
     }
 
@@ -120,7 +118,7 @@ public final class BranchPacker {
         if (branching < 0 || branching >= grove.size || !net.hasVertex(vertex)) {
             return NONE;
         }
-        refreshPacking();
+        packing.refresh(net, grove);
         for (int e = 0; e < net.arcCount; e++) {
             if (packing.owners[e] == branching && net.heads[e] == vertex) {
                 return e;
@@ -175,13 +173,6 @@ public final class BranchPacker {
         int different = set ^ other;
         int least = different & -different;
         return (set & least) != 0;
-    }
-
-    private void refreshPacking() {
-        if (packingIsStale) {
-            packing.find(net, grove);
-            packingIsStale = false;
-        }
     }
 
     /** The vertices and the arcs. */
@@ -267,8 +258,14 @@ public final class BranchPacker {
         private final int[] owners = new int[ARC_LIMIT];
         /** For each set: how many unused arcs of its entry the branchings that miss it leave over. */
         private final int[] surplus = new int[1 << VERTEX_LIMIT];
+        /** Whether the net or the grove has changed since the packing was found. */
+        private boolean isStale = true;
 
-        void find(Net net, Grove grove) {
+        void refresh(Net net, Grove grove) {
+            if (!isStale) {
+                return;
+            }
+            isStale = false;
             Arrays.fill(owners, NONE);
             if (!measureSurplus(net, grove)) {
                 return;

@@ -94,6 +94,10 @@ public final class PromisesTest {
         x.drop(13);
         Check.due("3: arc once there is room", x.arc(2, 1), 13);
         Check.due("3: its end", x.end(13, 1), 1);
+        BranchPacker told = planted(net(2, "10"), 1);
+        Check.due("3: no packing yet", told.owner(0), -1);
+        told.arc(0, 1);
+        Check.due("3: owner of the new arc", told.owner(1), 0);
     }
 
     private static void drop() {
@@ -117,12 +121,13 @@ public final class PromisesTest {
         BranchPacker full = net(2, "01 01 01 01 01 01 01 01 01 01 01 01 01 10");
         Check.due("4: drop of 14", full.drop(0), true);
         Check.due("4: last of 13", full.end(12, 0), 1);
-        BranchPacker told = planted(net(2, "01 01"), 1);
-        Check.due("4: owner(0) before", told.owner(0), 0);
-        Check.due("4: owner(1) before", told.owner(1), -1);
+        BranchPacker told = planted(net(2, "10 01 01"), 1);
+        Check.due("4: owner(0) before", told.owner(0), -1);
+        Check.due("4: owner(1) before", told.owner(1), 0);
         told.drop(0);
-        Check.due("4: owner(0) after", told.owner(0), 0);
-        Check.due("4: owner(1) after", told.owner(1), -1);
+        Check.due("4: owner(0) behind it", told.owner(0), 0);
+        Check.due("4: owner(1) behind it", told.owner(1), -1);
+        Check.due("4: way(0, 1) behind it", told.way(0, 1), 0);
     }
 
     private static void plant() {
