@@ -5,7 +5,7 @@ import java.util.Random;
 /** Long runs of changes, by a fixed seed, with every answer compared with the plain search. */
 public final class SearchTest {
     private final Random random;
-    private final BranchPacker packer = new BranchPacker();
+    private final Run run = new Run();
     private final List<int[]> arcs = new ArrayList<>();
     private final List<Integer> roots = new ArrayList<>();
     private int vertices = 1;
@@ -86,11 +86,11 @@ public final class SearchTest {
         } else if (kind < 5 && !arcs.isEmpty()) {
             int e = random.nextInt(arcs.size());
             told += " drop " + e;
-            Check.due(told, packer.drop(e), true);
+            Check.due(told, run.drop(e), 1);
             arcs.remove(e);
         } else if (kind == 5) {
             told += " fell";
-            Check.due(told, packer.fell(), roots.size() - 1);
+            Check.due(told, run.fell(), roots.size() - 1);
             if (!roots.isEmpty()) {
                 roots.remove(roots.size() - 1);
             }
@@ -103,7 +103,7 @@ public final class SearchTest {
 
     private void begin(int n) {
         told += " begin " + n;
-        Check.due(told, packer.begin(n), true);
+        Check.due(told, run.begin(n), 1);
         vertices = n;
         arcs.clear();
         roots.clear();
@@ -118,7 +118,7 @@ public final class SearchTest {
     private void addArc(int a, int b) {
         told += " arc " + a + "-" + b;
         int number = arcs.size() < 14 ? arcs.size() : -1;
-        Check.due(told, packer.arc(a, b), number);
+        Check.due(told, run.arc(a, b), number);
         if (number >= 0) {
             arcs.add(new int[] {a, b});
         }
@@ -131,7 +131,7 @@ public final class SearchTest {
     private void plantRoots(int set) {
         told += " plant " + set;
         int number = roots.size() < 3 ? roots.size() : -1;
-        Check.due(told, packer.plant(set), number);
+        Check.due(told, run.plant(set), number);
         if (number >= 0) {
             roots.add(set);
         }
@@ -139,12 +139,12 @@ public final class SearchTest {
 
     private void compareAll() {
         PlainSearch search = new PlainSearch(vertices, arcs, roots);
-        Check.due(told + " count(0)", packer.count(0), vertices);
-        Check.due(told + " count(1)", packer.count(1), arcs.size());
-        Check.due(told + " count(2)", packer.count(2), roots.size());
-        Check.due(told + " packs()", packer.packs(), search.packs());
-        Check.due(told + " stopper()", packer.stopper(), search.stopper());
-        Check.due(told + " stopper() == 0", packer.stopper() == 0, packer.packs());
+        Check.due(told + " count(0)", run.ask().count(0), vertices);
+        Check.due(told + " count(1)", run.ask().count(1), arcs.size());
+        Check.due(told + " count(2)", run.ask().count(2), roots.size());
+        Check.due(told + " packs()", run.ask().packs(), search.packs());
+        Check.due(told + " stopper()", run.ask().stopper(), search.stopper());
+        Check.due(told + " stopper() == 0", run.ask().stopper() == 0, run.ask().packs());
         compareArcs(search);
         compareWays(search);
         compareSets(search);
@@ -153,14 +153,14 @@ public final class SearchTest {
     private void compareArcs(PlainSearch search) {
         int[] owners = search.owners();
         for (int e = 0; e < arcs.size(); e++) {
-            Check.due(told + " owner(" + e + ")", packer.owner(e), owners[e]);
-            Check.due(told + " spare(" + e + ")", packer.spare(e), search.spare(e));
-            Check.due(told + " end(" + e + ", 0)", packer.end(e, 0), arcs.get(e)[0]);
-            Check.due(told + " end(" + e + ", 1)", packer.end(e, 1), arcs.get(e)[1]);
+            Check.due(told + " owner(" + e + ")", run.ask().owner(e), owners[e]);
+            Check.due(told + " spare(" + e + ")", run.ask().spare(e), search.spare(e));
+            Check.due(told + " end(" + e + ", 0)", run.ask().end(e, 0), arcs.get(e)[0]);
+            Check.due(told + " end(" + e + ", 1)", run.ask().end(e, 1), arcs.get(e)[1]);
         }
-        Check.due(told + " owner(" + arcs.size() + ")", packer.owner(arcs.size()), -1);
-        Check.due(told + " spare(" + arcs.size() + ")", packer.spare(arcs.size()), false);
-        Check.due(told + " end(" + arcs.size() + ", 0)", packer.end(arcs.size(), 0), -1);
+        Check.due(told + " owner(" + arcs.size() + ")", run.ask().owner(arcs.size()), -1);
+        Check.due(told + " spare(" + arcs.size() + ")", run.ask().spare(arcs.size()), false);
+        Check.due(told + " end(" + arcs.size() + ", 0)", run.ask().end(arcs.size(), 0), -1);
     }
 
     private void compareWays(PlainSearch search) {
@@ -168,7 +168,7 @@ public final class SearchTest {
         for (int branching = 0; branching < 4; branching++) {
             for (int vertex = 0; vertex < 8; vertex++) {
                 boolean known = branching < roots.size() && vertex < vertices;
-                Check.due(told + " way(" + branching + ", " + vertex + ")", packer.way(branching, vertex),
+                Check.due(told + " way(" + branching + ", " + vertex + ")", run.ask().way(branching, vertex),
                         known ? ways[branching][vertex] : -1);
             }
         }
@@ -176,10 +176,10 @@ public final class SearchTest {
 
     private void compareSets(PlainSearch search) {
         for (int set = 0; set <= search.all(); set++) {
-            Check.due(told + " entry(" + set + ")", packer.entry(set), search.entry(set));
-            Check.due(told + " missed(" + set + ")", packer.missed(set), search.missed(set));
+            Check.due(told + " entry(" + set + ")", run.ask().entry(set), search.entry(set));
+            Check.due(told + " missed(" + set + ")", run.ask().missed(set), search.missed(set));
             if (set != 0) {
-                Check.due(told + " most(" + set + ")", packer.most(set), search.most(set));
+                Check.due(told + " most(" + set + ")", run.ask().most(set), search.most(set));
             }
         }
     }

@@ -29,7 +29,7 @@ public final class WrongInputTest {
 
     private static void refusals(int vertices, int arcs, int branchings) {
         String net = "net of " + vertices + ", " + arcs + ", " + branchings + ": ";
-        String before = told(make(vertices, arcs, branchings));
+        String before = Nets.all(make(vertices, arcs, branchings));
         for (int odd : ODD) {
             BranchPacker x = make(vertices, arcs, branchings);
             if (odd < 1 || odd > 7) {
@@ -47,7 +47,7 @@ public final class WrongInputTest {
             if (odd < 0 || odd >= branchings) {
                 Check.due(net + "way(" + odd + ", 0)", x.way(odd, 0), -1);
             }
-            Check.due(net + "after " + odd + " all as before", told(x).equals(before), true);
+            Check.same(net + "all behind " + odd, Nets.all(x), before);
         }
     }
 
@@ -82,19 +82,5 @@ public final class WrongInputTest {
         Check.due(net + "entry(" + odd + ")", x.entry(odd), -1);
         Check.due(net + "missed(" + odd + ")", x.missed(odd), -1);
         Check.due(net + "most(" + odd + ")", x.most(odd), -1);
-    }
-
-    private static String told(BranchPacker x) {
-        StringBuilder text = new StringBuilder();
-        for (int what = 0; what < 3; what++) {
-            text.append(x.count(what)).append(' ');
-        }
-        for (int e = 0; e < x.count(1); e++) {
-            text.append(x.end(e, 0)).append('-').append(x.end(e, 1)).append(':').append(x.owner(e)).append(' ');
-        }
-        for (int set = 0; set < 1 << x.count(0); set++) {
-            text.append(x.entry(set)).append('/').append(x.missed(set)).append(' ');
-        }
-        return text.append(x.stopper()).toString();
     }
 }
