@@ -39,6 +39,11 @@ public final class FaceTest {
         Check.due("the face is " + seen + ": as due", seen.equals(DUE), true);
         hidden.retainAll(open);
         Check.due("private methods with a public one's name " + hidden, hidden.size(), 0);
+        for (Class<?> inside : BranchPacker.class.getDeclaredClasses()) {
+            int modifiers = inside.getModifiers();
+            Check.due(inside + " is static", Modifier.isStatic(modifiers), true);
+            Check.due(inside + " can be seen", Modifier.isPublic(modifiers) || Modifier.isProtected(modifiers), false);
+        }
         Check.finish();
     }
 
